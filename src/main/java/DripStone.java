@@ -47,6 +47,8 @@ public final class DripStone {
     private final Claim claimDraft = new Claim();
     private final Sheet[] sheets = {new Sheet(), new Sheet(), new Sheet(), new Sheet()};
     private final Ways[] lines = {new Ways(), new Ways()};
+    /** Whether a line tells the WAYS as they are, so that many questions are counted for once. */
+    private final boolean[] counted = new boolean[CANDLES];
     private final Marks marks = new Marks();
     private boolean imaged;
 
@@ -189,6 +191,7 @@ public final class DripStone {
         }
         now.candles[candle].grow(now.hill, now.law);
         now.dates.removeFrom(candle, 0);
+        counted[candle] = false;
         return now.candles[candle].things;
     }
 
@@ -216,6 +219,7 @@ public final class DripStone {
         }
         c.add(kind, weight, 0);
         c.made = false;
+        counted[candle] = false;
         return c.things - 1;
     }
 
@@ -225,6 +229,7 @@ public final class DripStone {
         }
         now.candles[candle].cutFrom(thing);
         now.dates.removeFrom(candle, thing);
+        counted[candle] = false;
         return thing;
     }
 
@@ -245,6 +250,7 @@ public final class DripStone {
         }
         int was = now.candles[candle].most;
         now.candles[candle].most = n;
+        counted[candle] = false;
         return was;
     }
 
@@ -260,6 +266,7 @@ public final class DripStone {
             return FULL;
         }
         c.addStretch(kind, from, to, n);
+        counted[candle] = false;
         return c.stretches;
     }
 
@@ -281,6 +288,7 @@ public final class DripStone {
             return FULL;
         }
         now.dates.add(candle, thing, from, to, dirty);
+        counted[candle] = false;
         return now.dates.held - 1;
     }
 
@@ -290,6 +298,7 @@ public final class DripStone {
         }
         int was = now.dates.reasons[date];
         now.dates.reasons[date] = why;
+        counted[now.dates.candles[date]] = false;
         return was;
     }
 
@@ -313,7 +322,7 @@ public final class DripStone {
         if (!isCandle(candle)) {
             return BAD;
         }
-        return now.candles[candle].places() == 0 ? NOT : laidLine(candle).total;
+        return now.candles[candle].places() == 0 ? NOT : lineOf(candle).total;
     }
 
     public int ends(int candle, int thing, int what) {
@@ -323,7 +332,7 @@ public final class DripStone {
         if (!now.candles[candle].isPlace(thing)) {
             return CAST;
         }
-        Ways line = talliedLine(candle);
+        Ways line = lineOf(candle);
         return line.total == 0 ? NONE : line.endOf(line.placeOf[thing], what);
     }
 
@@ -334,7 +343,7 @@ public final class DripStone {
         if (!now.candles[candle].isPlace(thing)) {
             return CAST;
         }
-        Ways line = talliedLine(candle);
+        Ways line = lineOf(candle);
         return oddsPart(line.tally(line.placeOf[thing], year), line.total, what);
     }
 
@@ -346,7 +355,7 @@ public final class DripStone {
         if (!c.isPlace(early) || !c.isPlace(late)) {
             return CAST;
         }
-        Ways line = talliedLine(candle);
+        Ways line = lineOf(candle);
         line.measure(line.placeOf[early], line.placeOf[late]);
         return line.total == 0 ? NONE : line.distanceEnd(what);
     }
@@ -359,7 +368,7 @@ public final class DripStone {
         if (!c.isPlace(early) || !c.isPlace(late)) {
             return CAST;
         }
-        Ways line = talliedLine(candle);
+        Ways line = lineOf(candle);
         line.measure(line.placeOf[early], line.placeOf[late]);
         long above = 0;
         for (int d = n; d < YEARS; d++) {
@@ -375,7 +384,7 @@ public final class DripStone {
         if (now.candles[candle].places() == 0) {
             return NOT;
         }
-        Ways line = talliedLine(candle);
+        Ways line = lineOf(candle);
         if (line.total == 0) {
             return NONE;
         }
@@ -399,19 +408,20 @@ public final class DripStone {
         if (waysWith(candle, 0) == 0) {
             return NONE;
         }
-        for (int size = 0; size <= DATES; size++) {
-            for (int bits = 0; bits <= binding; bits++) {
-                boolean asked = (bits & ~binding) == 0 && Integer.bitCount(bits) == size;
-                if (asked && waysWith(candle, binding & ~bits) > 0) {
-                    return bits;
-                }
+        int fewest = binding;
+        for (int bits = 0; bits < binding; bits++) {
+            boolean fewer = Integer.bitCount(bits) < Integer.bitCount(fewest);
+            if ((bits & ~binding) == 0 && fewer && waysWith(candle, binding & ~bits) > 0) {
+                fewest = bits;
             }
         }
-        return NONE;
+        return fewest;
     }
 
+    /** Counts the WAYS as if these DATES alone were binding. */
     private long waysWith(int candle, int bound) {
         Ways line = lines[candle];
+        counted[candle] = false;
         line.lay(now.candles[candle], now.dates, bound);
         line.goForward();
         return line.total;
@@ -455,21 +465,19 @@ public final class DripStone {
         if (refusal != 0) {
             return refusal;
         }
-        Ways line = lines[candle];
-        line.lay(now.candles[candle], now.dates, now.dates.binding(candle));
+        Ways line = lineOf(candle);
         int wrong = line.firstWrong(sheets[sheet].items, from);
         return wrong < 0 ? NONE : line.things[wrong];
     }
 
-    private Ways laidLine(int candle) {
-        waysWith(candle, now.dates.binding(candle));
+    /** The line of a CANDLE with all its WAYS counted. */
+    private Ways lineOf(int candle) {
+        if (!counted[candle]) {
+            waysWith(candle, now.dates.binding(candle));
+            lines[candle].goBack();
+            counted[candle] = true;
+        }
         return lines[candle];
-    }
-
-    private Ways talliedLine(int candle) {
-        Ways line = laidLine(candle);
-        line.goBack();
-        return line;
     }
 
     /** One part of a fraction in lowest terms; of none there are no ODDS. */
@@ -502,8 +510,8 @@ public final class DripStone {
         if (!now.candles[0].isPlace(thing0) || !now.candles[1].isPlace(thing1)) {
             return CAST;
         }
-        Ways line0 = talliedLine(0);
-        Ways line1 = talliedLine(1);
+        Ways line0 = lineOf(0);
+        Ways line1 = lineOf(1);
         long above = sharedWays(line0.placeOf[thing0], line1.placeOf[thing1]);
         return oddsPart(above, line0.total * line1.total, what);
     }
@@ -524,8 +532,8 @@ public final class DripStone {
         if (now.candles[0].places() == 0 || now.candles[1].places() == 0) {
             return NOT;
         }
-        Ways line0 = talliedLine(0);
-        Ways line1 = talliedLine(1);
+        Ways line0 = lineOf(0);
+        Ways line1 = lineOf(1);
         if (line0.total == 0 || line1.total == 0) {
             return NONE;
         }
@@ -568,7 +576,7 @@ public final class DripStone {
         if (now.candles[candle].places() == 0) {
             return NOT;
         }
-        Ways line = laidLine(candle);
+        Ways line = lineOf(candle);
         if (line.total == 0) {
             return NONE;
         }
@@ -598,7 +606,7 @@ public final class DripStone {
         if (c.places() == 0) {
             return NOT;
         }
-        Ways line = laidLine(candle);
+        Ways line = lineOf(candle);
         if (line.total == 0) {
             return NONE;
         }
@@ -666,6 +674,8 @@ public final class DripStone {
             return NONE;
         }
         now.take(kept);
+        counted[0] = false;
+        counted[1] = false;
         return 1;
     }
 
@@ -1087,22 +1097,16 @@ public final class DripStone {
         private int fault;
 
         int readLaw(Law law) {
-            begin();
-            law.clauses = 0;
-            for (int c = 0; c < CLAUSES; c++) {
+            at = 0;
+            boolean goesOn = true;
+            for (int c = 0; c < CLAUSES && goesOn; c++) {
                 if (!readClause(law, c)) {
                     return fault;
                 }
                 law.clauses = c + 1;
-                if (look() == END) {
-                    return 0;
-                }
-                if (c == CLAUSES - 1 || !reads(';')) {
-                    fails(at);
-                    return fault;
-                }
+                goesOn = law.clauses < CLAUSES && reads(';');
             }
-            return fault;
+            return look() == END || fails(at) ? 0 : fault;
         }
 
         private boolean readClause(Law law, int clause) {
@@ -1123,7 +1127,8 @@ public final class DripStone {
         }
 
         private boolean readConditions(Law law, int clause) {
-            for (int j = 0; j < CONDITIONS; j++) {
+            boolean goesOn = true;
+            for (int j = 0; j < CONDITIONS && goesOn; j++) {
                 int to = clause * CONDITIONS + j;
                 law.subjects[to] = look();
                 if (!reads('a') && !reads('h') && !reads('w')) {
@@ -1138,37 +1143,29 @@ public final class DripStone {
                     return false;
                 }
                 law.conditions[clause] = j + 1;
-                if (j == CONDITIONS - 1 || !reads('&')) {
-                    return true;
-                }
+                goesOn = j + 1 < CONDITIONS && reads('&');
             }
             return true;
         }
 
         int readClaim(Claim claim) {
-            begin();
-            claim.atoms = 0;
-            for (int k = 0; k < ATOMS; k++) {
+            at = 0;
+            claim.either = false;
+            boolean goesOn = true;
+            for (int k = 0; k < ATOMS && goesOn; k++) {
                 if (!readAtom(claim, k)) {
                     return fault;
                 }
                 claim.atoms = k + 1;
-                if (look() == END) {
-                    return 0;
-                }
-                claim.either = look() == '|';
-                if (k == ATOMS - 1 || !reads('|') && !reads('&')) {
-                    fails(at);
-                    return fault;
-                }
+                claim.either = claim.either || look() == '|';
+                goesOn = claim.atoms < ATOMS && (reads('|') || reads('&'));
             }
-            return fault;
+            return look() == END || fails(at) ? 0 : fault;
         }
 
         private boolean readAtom(Claim claim, int k) {
             claim.negated[k] = reads('!');
             claim.tests[k] = '*';
-            claim.weights[k] = 0;
             if (!reads('*') && !readWeight(claim, k)) {
                 return false;
             }
@@ -1201,11 +1198,6 @@ public final class DripStone {
             int size = readNumberOf(start, 0, 50);
             claim.weights[k] = minus ? -size : size;
             return size >= 0;
-        }
-
-        private void begin() {
-            at = 0;
-            fault = 0;
         }
 
         /** The next byte that is no blank; it stays unread. */

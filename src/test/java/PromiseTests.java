@@ -246,6 +246,7 @@ public final class PromiseTests {
         due("a byte 255", x.type(-1L, 8), -1);
         due("n 0", x.type('a', 0), -1);
         due("n 9", x.type('a', 9), -1);
+        due("n 9 of eight good bytes", x.type(0x6161616161616161L, 9), -1);
         due("n far", x.type('a', MAX), -1);
         due("what is refused changes nothing", x.type(0x3a31, 2), 5);
         due("the highest byte comes first", x.law(), 1);
@@ -290,6 +291,7 @@ public final class PromiseTests {
         due("* and a condition", law(x, "*&a<1:1"), -21);
         due("a condition and *", law(x, "a<1&*:1"), -24);
         due("no subject", law(x, "<1:1"), -20);
+        due("no test", law(x, ":1"), -20);
         due("a capital", law(x, "A<1:1"), -20);
         due("no sign", law(x, "a1:1"), -21);
         due("<=", law(x, "a<=1:1"), -22);
@@ -346,6 +348,8 @@ public final class PromiseTests {
         due("two minus", claim(x, "w<--1@0-1#1"), -23);
         due("=", claim(x, "w=1@0-1#1"), -21);
         due("a", claim(x, "a<1@0-1#1"), -20);
+        due("neither * nor w", claim(x, "@0-1#1"), -20);
+        due("neither * nor w in the second", claim(x, "*@0-1#1|@0-1#1"), -28);
         due("YEAR 24", claim(x, "*@24-24#1"), -22);
         due("to 24", claim(x, "*@0-24#1"), -24);
         due("to less", claim(x, "*@ 7 - 6#1"), -27);
@@ -611,6 +615,7 @@ public final class PromiseTests {
         oddsAndSpans();
         nextAndMustGo();
         leansAndJudge();
+        countedAnew();
     }
 
     private static void countedWays() {
@@ -801,6 +806,58 @@ public final class PromiseTests {
         due("no WAY without all", x.mustGo(0), -4);
         x.date(0, 0, 1, 1, 0);
         due("no WAY without all", x.mustGo(0), -4);
+        x = stones(1, 2, 3);
+        x.stretch(0, 2, 0, 1, 11);
+        x.stretch(0, 2, 1, 2, 12);
+        due("one WAY", x.mustGo(0), 0);
+        for (int d = 0; d < 8; d++) {
+            x.date(0, 0, 5, 6, 0);
+            due("all of them", x.mustGo(0), (2 << d) - 1);
+        }
+        due("nothing was THROWN", x.count(1), 0);
+    }
+
+    /** Questions between changes: each change must be seen by the next question. */
+    private static void countedAnew() {
+        promise = 21;
+        DripStone x = stones(1);
+        due("one", x.ways(0), 24);
+        x.put(0, 0, 1);
+        due("put", x.ways(0), 300);
+        x.most(0, 1);
+        due("most", x.ways(0), 276);
+        x.stretch(0, 0, 0, 1, 0);
+        due("stretch", x.ways(0), 23);
+        x.date(0, 1, 0, 4, 0);
+        due("date", x.ways(0), 4);
+        due("mustGo", x.mustGo(0), 0);
+        due("behind mustGo", x.ways(0), 4);
+        due("leans", x.leans(0, 1, 1), 19);
+        due("behind leans", x.ways(0), 4);
+        x.image();
+        x.throwOut(0, 1);
+        due("throwOut", x.ways(0), 23);
+        x.throwOut(0, 0);
+        due("throwOut of none", x.ways(0), 4);
+        x.cut(0, 1);
+        due("cut", x.ways(0), 24);
+        x.restore();
+        due("restore", x.ways(0), 4);
+        x.put(1, 0, 1);
+        x.date(1, 0, 2, 2, 0);
+        due("the other", x.ways(1), 1);
+        due("this one", x.ways(0), 4);
+        x.throwOut(1, 1);
+        due("a DATE of the other", x.ways(1), 24);
+        x.rain(5, 0, 1);
+        law(x, "*:2");
+        x.make(0);
+        x.most(0, 2);
+        due("make", x.ways(0), 300);
+        x.ways(1);
+        x.restore();
+        due("restore, no PLACE", x.ways(1), -2);
+        due("restore", x.ways(0), 4);
     }
 
     private static void leansAndJudge() {
