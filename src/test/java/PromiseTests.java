@@ -700,6 +700,18 @@ public final class PromiseTests {
         due("NONE", x.ends(0, 0, 0), -4);
         due("CAST ahead of NONE", x.ends(0, 1, 0), -12);
 
+        DripStone last = stones(1, 2);
+        last.date(0, 0, 23, 23, 0);
+        due("the last YEAR, least", last.ends(0, 1, 0), 23);
+        due("the last YEAR, most", last.ends(0, 1, 1), 23);
+        DripStone all = stones(1, 2);
+        all.date(0, 0, 0, 0, 0);
+        all.date(0, 1, 23, 23, 0);
+        due("the first YEAR, most", all.ends(0, 0, 1), 0);
+        promise = 24;
+        due("23 apart at least", all.span(0, 0, 1, 0), 23);
+        due("23 apart at most", all.span(0, 0, 1, 1), 23);
+
         promise = 23;
         due("NONE", x.odds(0, 0, 4, 0), -4);
         x = stones(1, 2);
