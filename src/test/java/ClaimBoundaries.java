@@ -63,6 +63,16 @@ public final class ClaimBoundaries extends Setup {
         due("thing1 is a GAP", x.oneYear(1, 1, 0), CAST);
         due("none is", x.oneYear(1, 0, 0), 1);
         due("BAD and CAST", x.oneYear(0, 0, 2), BAD);
+        x = candle("sss");
+        things(x, 1, "s");
+        due("THING 2 of CANDLE 0", x.oneYear(2, 0, 0) > 0 ? 1 : 0, 1);
+        due("no THING 3 of CANDLE 0", x.oneYear(3, 0, 0), BAD);
+        due("no THING 1 of CANDLE 1", x.oneYear(2, 1, 0), BAD);
+        things(x, 1, "sss");
+        due("THING 3 of CANDLE 1", x.oneYear(0, 3, 0) > 0 ? 1 : 0, 1);
+        due("still no THING 3 of CANDLE 0", x.oneYear(3, 3, 0), BAD);
+        x = candle("gs");
+        things(x, 1, "sg");
         due("CANDLE 0 has no WAY", stuckPair(0).oneYear(0, 0, 0), NONE);
         due("CANDLE 1 has no WAY", stuckPair(1).oneYear(0, 0, 1), NONE);
         due("BAD and NONE", stuckPair(0).oneYear(1, 0, 0), BAD);
@@ -88,6 +98,11 @@ public final class ClaimBoundaries extends Setup {
         x.date(1, 2, 9, 10, 0);
         // CANDLE 1: 8 WAYS with 9, 9 with 10
         ties(x, 1, 2, 8);
+        x = candle("ssssssssssss");
+        things(x, 1, "ssssssssssss");
+        x.date(0, 11, 12, 12, 0);
+        x.date(1, 11, 12, 12, 0);
+        ties(x, 11, 11, x.ways(0) * x.ways(1));
         book.sentence("BAD; NOT: one of both has no PLACE; NONE.");
         due("nothing on both", new DripStone().tie(0), NOT);
         due("nothing on CANDLE 1", candle("s").tie(0), NOT);
@@ -139,12 +154,34 @@ public final class ClaimBoundaries extends Setup {
         things(x, 0, "s");
         due("the first is as it was", x.chance(0, 0, 1), 24);
         due("so is the last", x.looked(3, 0, 1, 2, 0), 22);
-        x = new DripStone();
-        things(x, 0, "ss");
-        claim(x, "*@0-0#1&!*@5-5#1");
-        claim(x, "*@0-23#1");
-        due("the second ATOM of one is not the other's", x.looked(1, 0, 1, 1, 1), 1);
-        due("nor are its shifts", x.looked(0, 0, 1, 1, 0), 19);
+        claimsApart();
+    }
+
+    /** Nothing of a CLAIM is left in one that comes behind it. */
+    private static void claimsApart() {
+        DripStone x = candle("ss");
+        x.date(0, 0, 4, 4, 0);
+        x.date(0, 1, 6, 6, 0);
+        claim(x, "!*@0-0#1|!*@5-20#3");
+        claim(x, "*@4-4#1");
+        claim(x, "*@0-0#1&*@9-20#2");
+        claim(x, "*@4-7#2");
+        due("the second ATOM of one is not the other's, by |", x.looked(1, 0, 1, 1, 1), 2);
+        due("nor by &", x.chance(3, 0, 0), 1);
+        int[] shifts = {4, 20, 4, 17};
+        for (int i = 0; i < 4; i++) {
+            due("the shifts of " + i, x.looked(i, 0, 1, 1, 0), shifts[i]);
+        }
+        x = candle("s");
+        x.date(0, 0, 4, 4, 0);
+        claim(x, "*@4-4#1|*@5-5#1");
+        claim(x, "*@4-4#1&*@5-5#1");
+        claim(x, "!*@4-4#1&!*@5-5#1");
+        claim(x, "*@4-4#1|*@5-5#1");
+        int[] so = {1, 0, 0, 1};
+        for (int i = 0; i < 4; i++) {
+            due("| and & are of one CLAIM each, " + i, x.chance(i, 0, 0), so[i]);
+        }
     }
 
     private static DripStone claimed(String kinds, String claim) {
@@ -164,6 +201,19 @@ public final class ClaimBoundaries extends Setup {
             due(claims[i] + " above", x.chance(0, 0, 0), odds[i][0]);
             due(claims[i] + " below", x.chance(0, 0, 1), odds[i][1]);
         }
+        String[] ofThree = {"*@5-9#2", "*@1-1#1", "*@4-4#1&*@6-9#2", "!*@5-23#1"};
+        int[][] oddsOfThree = {{45, 368}, {13, 112}, {5, 1288}, {15, 1288}};
+        for (int i = 0; i < ofThree.length; i++) {
+            DripStone x = claimed("sss", ofThree[i]);
+            due(ofThree[i] + " of three, above", x.chance(0, 0, 0), oddsOfThree[i][0]);
+            due(ofThree[i] + " of three, below", x.chance(0, 0, 1), oddsOfThree[i][1]);
+        }
+        due("of one, above", claimed("s", "!*@0-0#1").chance(0, 0, 0), 23);
+        due("of one, below", claimed("s", "!*@0-0#1").chance(0, 0, 1), 24);
+        due("both ATOMS with the most", claimed("ssssssssssss", "*@0-23#12&*@0-23#12").chance(0, 0, 0), 1);
+        due("both with the most, never", claimed("ssssssssssss", "*@0-11#12&*@12-23#12").chance(0, 0, 0), 0);
+        due("the first with the most", claimed("ssssssssssss", "*@0-23#12&!*@0-0#12").chance(0, 0, 0), 1);
+        due("the second with the most", claimed("ssssssssssss", "!*@0-0#12&*@0-23#12").chance(0, 0, 0), 1);
         DripStone x = claimed("s", "*@0-0#1");
         things(x, 1, "ss");
         due("by the other, above", x.chance(0, 1, 0), 2);
@@ -449,6 +499,7 @@ public final class ClaimBoundaries extends Setup {
         x.law();
         x.cause(-1, 1);
         x.throwOut(0, 2);
+        due("the WAYS of both as upset are counted", Long.signum(x.ways(0)) + Long.signum(x.ways(1)), 2);
     }
 
     private static void asBefore(States state, DripStone got, DripStone want) {

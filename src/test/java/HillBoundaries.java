@@ -365,6 +365,9 @@ public final class HillBoundaries extends Setup {
         due("-11 from -20", learnt(9, 8, -11), 31);
         due("no WATER fits no WEIGHT", learnt(9, 2, 0), NONE);
         due("no WATER is not nought", learnt(9, 4, 1), 30);
+        for (int weight : new int[] {-1013, -1004, -1001, -1000, -4}) {
+            due("no WATER is not " + weight, learnt(9, 2, weight), NONE);
+        }
     }
 
     private static void learnRefused() {

@@ -40,6 +40,7 @@ public final class LanguageTests {
         lengths(source);
         neverThrows();
         makesNothing();
+        lastCall();
         System.out.println(wrong == 0 ? "the language is kept" : wrong + " faults");
         if (wrong != 0) {
             System.exit(1);
@@ -248,6 +249,22 @@ public final class LanguageTests {
         x = new DripStone();
         long object = bean.getThreadAllocatedBytes(thread) - before;
         must(x.count(0) == 0 && object < 400000, "an object is of " + object + " bytes");
+    }
+
+    /** The document promises 512 calls of an object: the last of them answers as the first did. */
+    private static void lastCall() {
+        DripStone x = new DripStone();
+        for (int i = 0; i < 511; i++) {
+            int was = x.rain(i % 24, 0, i / 24 % 10);
+            must(was == (i < 24 ? 0 : (i / 24 - 1) % 10), "call " + (i + 1) + " answered " + was);
+        }
+        must(x.wet(6) == 1, "call 512 is not answered as it should be");
+        x = new DripStone();
+        x.put(0, 0, 5);
+        for (int i = 1; i < 511; i++) {
+            must(x.image() == 1 && i++ > 0 && x.restore() == 1, "call " + (i + 1) + " is refused");
+        }
+        must(x.thing(0, 0, 1) == 5, "what an IMAGE keeps is lost");
     }
 
     private static void askAll(DripStone x) {

@@ -76,6 +76,14 @@ public final class WayBoundaries extends Setup {
         x.most(0, 4);
         ends(x, 0, 0, 22);
         ends(x, 4, 1, 23);
+        x = stretched(0, 0);
+        ends(x, 0, 0, 22);
+        ends(x, 1, 0, 23);
+        ends(x, 2, 1, 23);
+        x = stretched(1, 2);
+        ends(x, 0, 0, 22);
+        ends(x, 1, 0, 22);
+        ends(x, 2, 1, 23);
         book.sentence("BAD; CAST; NONE: no WAY.");
         book.range("candle", 0, 1, v -> States.RICH.make().ends(v, 0, 0), BAD);
         book.range("thing", 0, 1, v -> candle("ss").ends(0, v, 0), BAD);
@@ -89,6 +97,13 @@ public final class WayBoundaries extends Setup {
         book.refused("NONE", States.STUCK, y -> y.ends(0, 0, 0), NONE);
     }
 
+    /** Three STONES with a STRETCH over all of them. */
+    private static DripStone stretched(int kind, int n) {
+        DripStone x = candle("sss");
+        x.stretch(0, kind, 0, 2, n);
+        return x;
+    }
+
     private static void ends(DripStone x, int thing, int least, int most) {
         due("the least YEAR of THING " + thing, x.ends(0, thing, 0), least);
         due("the most YEAR of THING " + thing, x.ends(0, thing, 1), most);
@@ -100,10 +115,18 @@ public final class WayBoundaries extends Setup {
         book.range("what", 0, 1, v -> candle("s").odds(0, 0, 0, v), BAD);
         DripStone x = candle("ss");
         int[][] odds = {{0, 0, 2, 25}, {0, 23, 1, 300}, {1, 0, 1, 300}, {1, 23, 2, 25}, {0, 12, 1, 25}, {1, 12, 13, 300}};
-        for (int[] o : odds) {
-            due("above of " + o[0] + " in " + o[1], x.odds(0, o[0], o[1], 0), o[2]);
-            due("below of " + o[0] + " in " + o[1], x.odds(0, o[0], o[1], 1), o[3]);
-        }
+        allOdds(x, odds);
+        // EVEN: 23 and 23 with two in one YEAR, 22 with three YEARS
+        int[][] even = {{0, 0, 3, 68}, {0, 21, 3, 68}, {0, 22, 1, 34}, {0, 23, 0, 1}, {1, 0, 1, 68}, {1, 1, 3, 68}, {1, 23, 1, 68},
+            {2, 0, 0, 1}, {2, 1, 1, 34}, {2, 2, 3, 68}, {2, 23, 3, 68}};
+        allOdds(stretched(0, 0), even);
+        // FAST by 2: two and one; with MOST 3 three, too
+        int[][] fast = {{0, 0, 1, 23}, {0, 22, 1, 23}, {0, 23, 0, 1}, {1, 22, 1, 23}, {1, 23, 0, 1}, {2, 0, 0, 1}, {2, 1, 1, 23}};
+        allOdds(stretched(1, 2), fast);
+        int[][] three = {{0, 0, 2, 47}, {0, 22, 2, 47}, {0, 23, 1, 47}, {2, 0, 1, 47}, {2, 1, 2, 47}, {2, 23, 2, 47}};
+        x = stretched(1, 2);
+        x.most(0, 3);
+        allOdds(x, three);
         x = fixed(5);
         for (int year = 4; year <= 6; year++) {
             due("of a sure one, above, in " + year, x.odds(0, 0, year, 0), year == 5 ? 1 : 0);
@@ -121,6 +144,14 @@ public final class WayBoundaries extends Setup {
         due("BAD and NONE", stuck().odds(0, 0, -1, 0), BAD);
         due("CAST and NONE", stuck().odds(0, 1, 0, 0), CAST);
         book.refused("NONE", States.STUCK, y -> y.odds(0, 0, 5, 0), NONE);
+    }
+
+    /** A THING, a YEAR, and its ODDS. */
+    private static void allOdds(DripStone x, int[][] odds) {
+        for (int[] o : odds) {
+            due("above of " + o[0] + " in " + o[1], x.odds(0, o[0], o[1], 0), o[2]);
+            due("below of " + o[0] + " in " + o[1], x.odds(0, o[0], o[1], 1), o[3]);
+        }
     }
 
     private static void span() {
@@ -223,6 +254,10 @@ public final class WayBoundaries extends Setup {
         x.date(0, 2, 2, 4, 0);
         // 0 with 2, 3, 4 and 1 with 3, 4: 3 by the first, 2 by the THING 2
         nexts(x, 2, 2);
+        x = candle("sss");
+        x.stretch(0, 0, 0, 1, 0);
+        // of 552 WAYS 46 by the first or the third, 45 by the second
+        nexts(x, 1, 45);
         book.sentence("BAD; NOT: no PLACE; NONE: no WAY.");
         book.range("candle", 0, 1, v -> candle("s").next(v, 0), BAD);
         due("nothing", new DripStone().next(0, 0), NOT);
@@ -288,6 +323,11 @@ public final class WayBoundaries extends Setup {
         due("no WAY and no DATE", x.mustGo(0), NONE);
         x.date(0, 0, 5, 5, 0);
         due("no WAY with a DATE or without", x.mustGo(0), NONE);
+        x = candle("sgs");
+        x.date(0, 2, 0, 1, 0);
+        due("a DATE by which alone there is no WAY", x.mustGo(0), 1);
+        x.date(0, 2, 0, 2, 0);
+        due("with one that may stay", x.mustGo(0), 1);
         x = candle("sgsgsgsgsgs");
         x.stretch(0, 2, 0, 2, 14);
         due("a WAY", x.mustGo(0), 0);
