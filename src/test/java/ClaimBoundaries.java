@@ -52,6 +52,7 @@ public final class ClaimBoundaries extends Setup {
         due("the most WAYS of both are not too many", big.oneYear(0, 0, 1) > 0 ? 1 : 0, 1);
         due("as likely from the other end, above", big.oneYear(0, 0, 0), big.oneYear(11, 11, 0));
         due("as likely from the other end, below", big.oneYear(0, 0, 1), big.oneYear(11, 11, 1));
+        everyPair();
         book.sentence("BAD; CAST; NONE: one of both has no WAY.");
         book.range("thing0", 0, 0, v -> pair(0, 3, 0, 3).oneYear(v, 0, 0), BAD);
         book.range("thing1", 0, 0, v -> pair(0, 3, 0, 3).oneYear(0, v, 0), BAD);
@@ -82,6 +83,26 @@ public final class ClaimBoundaries extends Setup {
         due("NONE", x.oneYear(1, 0, 0), NONE);
     }
 
+    /** Each PLACE of one YEAR: 3, 5 and 9 on CANDLE 0, 5 and 9 on CANDLE 1. */
+    private static void everyPair() {
+        DripStone x = candle("sgsgs");
+        things(x, 1, "gdgs");
+        int[] years0 = {3, -1, 5, -1, 9};
+        int[] years1 = {-1, 5, -1, 9};
+        for (int t = 0; t < 5; t += 2) {
+            x.date(0, t, years0[t], years0[t], 0);
+        }
+        for (int t = 1; t < 4; t += 2) {
+            x.date(1, t, years1[t], years1[t], 0);
+        }
+        for (int t = 0; t < 5; t++) {
+            for (int u = 0; u < 4; u++) {
+                int want = t % 2 == 1 || u % 2 == 0 ? CAST : years0[t] == years1[u] ? 1 : 0;
+                due("THINGS " + t + " and " + u, x.oneYear(t, u, 0), want);
+            }
+        }
+    }
+
     private static void tie() {
         book.promise(31);
         book.sentence("THE TIE: the THING of CANDLE 0 (0), of CANDLE 1 (1), how many WAYS of both together have it so (2).");
@@ -98,6 +119,16 @@ public final class ClaimBoundaries extends Setup {
         x.date(1, 2, 9, 10, 0);
         // CANDLE 1: 8 WAYS with 9, 9 with 10
         ties(x, 1, 2, 8);
+        x = candle("sgsgs");
+        things(x, 1, "s");
+        x.date(1, 0, 20, 20, 0);
+        x.date(0, 4, 20, 20, 0);
+        ties(x, 4, 0, x.ways(0));
+        x = candle("s");
+        things(x, 1, "sgsgs");
+        x.date(0, 0, 20, 20, 0);
+        x.date(1, 4, 20, 20, 0);
+        ties(x, 0, 4, x.ways(1));
         x = candle("ssssssssssss");
         things(x, 1, "ssssssssssss");
         x.date(0, 11, 12, 12, 0);

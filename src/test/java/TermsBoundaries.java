@@ -438,6 +438,10 @@ public final class TermsBoundaries extends Setup {
         due("the least", weightMade(-20, 9), -29);
         due("the most", weightMade(20, 0), 20);
         due("nought", weightMade(9, 9), 0);
+        int[] byK = {40 / 2, 30 / 3, 10 / 4, -10 / 5, -30 / 6};
+        for (int k = 1; k <= 5; k++) {
+            due("WATER by K " + k, weightKept(k), byK[k - 1]);
+        }
         gaps();
         whatFits();
         truths();
@@ -449,6 +453,20 @@ public final class TermsBoundaries extends Setup {
         x.rain(3, 1, weight);
         x.rain(3, 2, heat);
         law(x, "*:1");
+        x.make(0);
+        return x.thing(0, 0, 1);
+    }
+
+    /** The WEIGHT that is MADE of YEAR 4, where others are kept. */
+    private static int weightKept(int k) {
+        DripStone x = new DripStone();
+        int[] weights = {-20, -20, -20, -10, 20};
+        for (int y = 0; y < 5; y++) {
+            x.rain(y, 0, y == 4 ? 2 : 1);
+            x.rain(y, 1, weights[y]);
+        }
+        x.set(0, k);
+        law(x, "a=2:1");
         x.make(0);
         return x.thing(0, 0, 1);
     }
@@ -976,6 +994,9 @@ public final class TermsBoundaries extends Setup {
         due("! is of its ATOM alone", so("!*@4-4#1&!*@6-6#1", 0, 0), 0);
         due("such PLACES alone", so("w>0@4-9#2", 1, 0, 0, 1), 1);
         due("such PLACES alone, not so", so("w>0@4-9#3", 1, 0, 0, 1), 0);
+        due("such PLACES alone by the second ATOM", so("*@4-4#1&w>0@6-9#1", 1, 1, 0, 1), 1);
+        due("such PLACES alone by the second ATOM, not so", so("*@4-4#1&w>0@6-9#1", 1, 1, 0, 0), 0);
+        due("by the second ATOM DIRT is none", secondByDirt(), 0);
         DripStone twelve = candle("ssssssssssss");
         claim(twelve, "*@0-23#12");
         claim(twelve, "!*@0-23#12");
@@ -997,6 +1018,12 @@ public final class TermsBoundaries extends Setup {
             due("CHANCE of " + i, x.chance(i, 0, 0) * 100 + x.chance(i, 0, 1), 100 + below[i]);
         }
         lookedFor();
+    }
+
+    private static long secondByDirt() {
+        DripStone x = candle("sd");
+        claim(x, "*@0-23#1&w<50@0-23#2");
+        return x.chance(0, 0, 0);
     }
 
     private static void lookedFor() {
