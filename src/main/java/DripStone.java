@@ -1303,7 +1303,7 @@ public final class DripStone {
         private final int[] unmarked = new int[YEARS];
         private final long[] here = new long[STATES];
         private final long[] there = new long[STATES];
-        private int most;
+        int most;
         int places;
         long total;
 
@@ -1369,7 +1369,7 @@ public final class DripStone {
             start(fore[0], unmarked);
             for (int p = 1; p < places; p++) {
                 Arrays.fill(fore[p], 0L);
-                advance(fore[p - 1], 0, fore[p], p, unmarked);
+                advance(fore[p - 1], fore[p], p, unmarked);
             }
             for (int s = 0; s < STATES; s++) {
                 total += fore[places - 1][s];
@@ -1384,34 +1384,42 @@ public final class DripStone {
         }
 
         /**
-         * Adds to the states of place p what comes of those of the place ahead that bear a mark;
-         * into tells, by the YEAR of p, the mark that they bear then.
+         * Adds to the states of place p what comes of those of the place ahead; into tells, by
+         * the YEAR of p, the mark that they bear then.
          */
-        void advance(long[] from, int mark, long[] to, int p, int[] into) {
-            int base = mark * STATES;
+        void advance(long[] from, long[] to, int p, int[] into) {
             int near = Math.max(1, least[p]);
             boolean moves = near <= furthest[p];
             long moving = 0;
-            for (int y = 0; y <= latest[p]; y++) {
+            for (int y = firstYear(from); y <= latest[p]; y++) {
                 if (moves) {
-                    moving += leaving(from, base, y - near, p) - leaving(from, base, y - furthest[p] - 1, p);
+                    moving += leaving(from, y - near, p) - leaving(from, y - furthest[p] - 1, p);
                 }
                 if (y >= earliest[p]) {
                     int at = into[y] * STATES + y * RUNS;
                     to[at] += moving;
                     for (int r = 1; r < most && least[p] == 0; r++) {
-                        to[at + r] += from[base + y * RUNS + r - 1];
+                        to[at + r] += from[y * RUNS + r - 1];
                     }
                 }
             }
         }
 
+        /** The first YEAR that a state is of; YEARS, if there is none. */
+        private static int firstYear(long[] states) {
+            int at = 0;
+            while (at < STATES && states[at] == 0) {
+                at++;
+            }
+            return at / RUNS;
+        }
+
         /** How many come from a YEAR that has as many PLACES as place p, of another, needs. */
-        private long leaving(long[] from, int base, int year, int p) {
+        private long leaving(long[] from, int year, int p) {
             long sum = 0;
             if (year >= 0) {
                 for (int r = needed[p] - 1; r < most; r++) {
-                    sum += from[base + year * RUNS + r];
+                    sum += from[year * RUNS + r];
                 }
             }
             return sum;
@@ -1498,7 +1506,7 @@ public final class DripStone {
             }
             for (int p = early + 1; p <= late; p++) {
                 Arrays.fill(to, 0L);
-                advance(from, 0, to, p, unmarked);
+                advance(from, to, p, unmarked);
                 long[] spare = from;
                 from = to;
                 to = spare;
@@ -1554,8 +1562,9 @@ public final class DripStone {
         private final boolean[] years0 = new boolean[YEARS];
         private final boolean[] years1 = new boolean[YEARS];
         private final int[] into = new int[YEARS];
-        private final long[] here = new long[MARKS * STATES];
-        private final long[] there = new long[MARKS * STATES];
+        /** The states of each mark, one block behind the other. */
+        private final long[] blocks = new long[MARKS * STATES];
+        private final long[] lifted = new long[STATES];
         private int goal0;
         private int goal1;
 
@@ -1564,25 +1573,19 @@ public final class DripStone {
                 return 0;
             }
             ask(line, candle, claim, shift);
-            long[] from = here;
-            long[] to = there;
-            clear(from);
+            Arrays.fill(blocks, 0, (goal0 + 1) * (goal1 + 1) * STATES, 0L);
             tellMarks(0, 0, 0);
-            line.start(from, into);
+            line.start(blocks, into);
             for (int p = 1; p < line.places; p++) {
-                clear(to);
-                advanceAll(line, from, to, p);
-                long[] spare = from;
-                from = to;
-                to = spare;
+                advanceAll(line, p);
             }
-            return sumSo(claim, from);
+            return sumSo(claim);
         }
 
-        /** Notes which places and YEARS each ATOM counts; an ATOM that is not there asks for 0. */
+        /** Notes which places and YEARS each ATOM counts, and how many it needs to have seen. */
         private void ask(Ways line, Candle candle, Claim claim, int shift) {
-            goal0 = claim.goals[0];
-            goal1 = claim.atoms == 1 ? 0 : claim.goals[1];
+            goal0 = goalOf(0, line, candle, claim);
+            goal1 = goalOf(1, line, candle, claim);
             for (int p = 0; p < line.places; p++) {
                 places0[p] = claim.counts(0, candle, line.things[p]);
                 places1[p] = claim.counts(1, candle, line.things[p]);
@@ -1593,18 +1596,33 @@ public final class DripStone {
             }
         }
 
-        private void clear(long[] row) {
-            Arrays.fill(row, 0, (goal0 + 1) * (goal1 + 1) * STATES, 0L);
+        /** What an ATOM asks for; 0, so that nothing is kept for it, if it is not there or never met. */
+        private static int goalOf(int atom, Ways line, Candle candle, Claim claim) {
+            int most = (claim.lasts[atom] - claim.firsts[atom] + 1) * line.most;
+            int there = 0;
+            for (int p = 0; p < line.places; p++) {
+                there += claim.counts(atom, candle, line.things[p]) ? 1 : 0;
+            }
+            boolean meetable = atom < claim.atoms && claim.goals[atom] <= Math.min(most, there);
+            return meetable ? claim.goals[atom] : 0;
         }
 
-        private void advanceAll(Ways line, long[] from, long[] to, int p) {
+        /** Marks never get less, so that with the greatest first no block is moved twice. */
+        private void advanceAll(Ways line, int p) {
             // of the p places ahead none has been seen more than once
-            for (int seen0 = 0; seen0 <= goal0 && seen0 <= p; seen0++) {
-                for (int seen1 = 0; seen1 <= goal1 && seen1 <= p; seen1++) {
+            for (int seen0 = Math.min(goal0, p); seen0 >= 0; seen0--) {
+                for (int seen1 = Math.min(goal1, p); seen1 >= 0; seen1--) {
+                    lift(markOf(seen0, seen1));
                     tellMarks(seen0, seen1, p);
-                    line.advance(from, markOf(seen0, seen1), to, p, into);
+                    line.advance(lifted, blocks, p, into);
                 }
             }
+        }
+
+        private void lift(int mark) {
+            int base = mark * STATES;
+            System.arraycopy(blocks, base, lifted, 0, STATES);
+            Arrays.fill(blocks, base, base + STATES, 0L);
         }
 
         /** The mark behind place p, by its YEAR, of a WAY that had seen so many ahead of it. */
@@ -1622,14 +1640,14 @@ public final class DripStone {
             return seen0 * (goal1 + 1) + seen1;
         }
 
-        private long sumSo(Claim claim, long[] row) {
+        private long sumSo(Claim claim) {
             long sum = 0;
             for (int seen0 = 0; seen0 <= goal0; seen0++) {
                 for (int seen1 = 0; seen1 <= goal1; seen1++) {
                     int base = markOf(seen0, seen1) * STATES;
                     boolean so = claim.isSo(seen0, seen1);
                     for (int s = 0; s < STATES && so; s++) {
-                        sum += row[base + s];
+                        sum += blocks[base + s];
                     }
                 }
             }
